@@ -18,7 +18,7 @@ final class Check {
         same(what, got ? 1 : 0, due ? 1 : 0);
     }
 
-    /** The very class is asked for: one of its subclasses would be another exception. */
+    /** The very class is asked for: one of its subclasses would be another exception. Null asks for none at all. */
     void fails(String what, Class<? extends RuntimeException> due, Call call) {
         Class<?> got = null;
         try {
