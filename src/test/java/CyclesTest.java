@@ -48,6 +48,21 @@ public final class CyclesTest {
         waiting.pin(Chips.READY, false);
         check.same("waiting", waiting.cycles(200), 0);
         check.registers("waiting", waiting, 0, 0, 0, 0, 0, 32, 0, 0);
+        asManyCallsOfCycle(check);
         check.finish();
+    }
+
+    /** "So many cycles": cycles(n) leaves behind what n calls of cycle() do. */
+    private static void asManyCallsOfCycle(Check check) {
+        for (int number = 0; number < Scenes.COUNT; number++) {
+            for (int n = 0; n <= 24; n++) {
+                int many = n;
+                Scenes.alike(check, "scene " + number + ", cycles of " + n, number, chip -> chip.cycles(many), free -> {
+                    for (int i = 0; i < many; i++) {
+                        free.cycle();
+                    }
+                });
+            }
+        }
     }
 }

@@ -301,17 +301,62 @@ public final class EdgeNumbersTest {
         }
     }
 
-    /** "An object is used for at most 512 calls": the last of them answers as the first. */
+    /** "An object is used for at most 512 calls": the last of them answers as the first, whichever they are. */
     private static void theLastOf512Calls() {
-        ClockedChip most = new ClockedChip();
-        for (int call = 1; call <= 511; call++) {
-            CHECK.same("cycles of 200, call " + call, most.cycles(200), 100);
-        }
-        CHECK.same("PC behind 102200 cycles", most.register(Chips.PC), 102200 % 65536);
-
         ClockedChip single = new ClockedChip();
+        ClockedChip most = new ClockedChip();
+        ClockedChip memory = new ClockedChip();
+        ClockedChip peeked = Chips.at(700, 9);
+        ClockedChip pins = new ClockedChip();
+        ClockedChip asked = Chips.at(700, 9);
+        ClockedChip registers = new ClockedChip();
         for (int call = 1; call <= 512; call++) {
             CHECK.trace("call " + call, single, Chips.read(call - 1, 0));
+            CHECK.same("cycles of 200, call " + call, most.cycles(200), 100);
+            CHECK.same("poke, call " + call, memory.poke(3, call), (call - 1) % 256);
+            if (call <= 510) {
+                CHECK.same("peek, call " + call, peeked.peek(700), 9);
+                CHECK.same("register, call " + call, asked.register(Chips.PC), 700);
+            }
+            CHECK.same("pin, call " + call, pins.pin(Chips.IRQ, call % 2 == 1), call % 2 == 0);
+            if (call % 2 == 1) {
+                registers.set(Chips.X, call);
+            } else {
+                CHECK.same("set, call " + call, registers.register(Chips.X), (call - 1) % 256);
+            }
+        }
+        theLastOf512Resets();
+        theLastOf512Sets();
+        theLastOf512Refusals();
+    }
+
+    private static void theLastOf512Resets() {
+        ClockedChip chip = new ClockedChip();
+        chip.cycle();
+        for (int call = 2; call <= 510; call++) {
+            chip.reset();
+        }
+        CHECK.trace("the last of many RESETs", chip, Chips.read(1, 0));
+        CHECK.fails("set in it, call 512", IllegalStateException.class, () -> chip.set(Chips.A, 1));
+    }
+
+    private static void theLastOf512Sets() {
+        ClockedChip chip = new ClockedChip();
+        for (int call = 1; call <= 511; call++) {
+            chip.set(Chips.PC, call);
+        }
+        CHECK.trace("PC of the last set, call 512", chip, Chips.read(511, 0));
+    }
+
+    private static void theLastOf512Refusals() {
+        ClockedChip chip = new ClockedChip();
+        for (int call = 1; call <= 512; call++) {
+            switch (call % 4) {
+                case 0 -> CHECK.fails("pin 4", IndexOutOfBoundsException.class, () -> chip.pin(4, true));
+                case 1 -> CHECK.fails("cycles of 201", IllegalArgumentException.class, () -> chip.cycles(201));
+                case 2 -> CHECK.fails("register 8", IndexOutOfBoundsException.class, () -> chip.register(8));
+                default -> CHECK.fails("set 6", IndexOutOfBoundsException.class, () -> chip.set(6, 0));
+            }
         }
     }
 }

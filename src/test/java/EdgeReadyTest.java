@@ -13,6 +13,7 @@ public final class EdgeReadyTest {
         for (int cycle = 0; cycle <= MOST_CYCLES_OF_ONE; cycle++) {
             waitsInAnInterrupt(cycle);
             waitsInReset(cycle);
+            waitsInABranchToAnotherPage(cycle);
         }
         offForAWholeRun();
         writesGoOnWhileItIsOff();
@@ -36,7 +37,7 @@ public final class EdgeReadyTest {
         return Chips.write(address, b);
     }
 
-    /** Every register is another one, C is 1, and each mode has another page ahead. */
+    /** Every register is another one, C is 1, and each mode that has an index has another page ahead. */
     private static ClockedChip chip(int code) {
         ClockedChip chip = Chips.at(600, code, 240, 2, Chips.NOTHING);
         Chips.put(chip, 240, 250, 1, 230);
@@ -85,6 +86,16 @@ public final class EdgeReadyTest {
 
     private static void waitsInACode(int code, int cycle) {
         waitsAlike("code " + code + " at " + cycle, chip(code), chip(code), cycle);
+    }
+
+    private static ClockedChip branching() {
+        ClockedChip chip = chip(Chips.code(21, 0));
+        chip.poke(601, 128);
+        return chip;
+    }
+
+    private static void waitsInABranchToAnotherPage(int cycle) {
+        waitsAlike("branch to another page at " + cycle, branching(), branching(), cycle);
     }
 
     private static ClockedChip interrupted() {

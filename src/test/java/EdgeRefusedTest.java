@@ -4,14 +4,7 @@ import java.util.List;
 /** Calls that are refused: when, by what exception, and that they change nothing. */
 public final class EdgeRefusedTest {
     private static final Check CHECK = new Check();
-    private static final int NEW = 0;
-    private static final int JAM = 5;
-    private static final int SCENES = 12;
-
-    /** A call that is refused in every state. */
-    interface Refused {
-        void on(ClockedChip chip);
-    }
+    private static final int SCENES = Scenes.COUNT;
 
     public static void main(String[] args) {
         setInEveryCycleOfEveryCode();
@@ -118,34 +111,8 @@ public final class EdgeRefusedTest {
         accepted("wanted behind the end", late);
     }
 
-    /** A chip in one of many states, made by the same calls each time. */
-    private static ClockedChip scene(int number) {
-        int[] codes = {Chips.NOTHING, Chips.code(Chips.LOAD_A, 3), Chips.code(Chips.MORE, 4), Chips.CALL,
-            Chips.RETURN_FROM_INTERRUPT, Chips.JAM, Chips.BREAK, Chips.NOTHING, Chips.NOTHING, Chips.NOTHING,
-            Chips.code(Chips.STORE_A, 6), Chips.code(20, 0)};
-        int[] cycles = {0, 3, 5, 4, 4, 2, 5, 2, 6, 1, 4, 2};
-        ClockedChip chip = Chips.at(600, codes[number], 90, 2, Chips.NOTHING);
-        Chips.put(chip, 90, 250, 1);
-        Chips.put(chip, 1018, 16, 3, 32, 3, 48, 3);
-        int[] values = {71, 19, 37, 253, 600, number == 11 ? 64 : 65};
-        for (int which = 0; which < 6; which++) {
-            chip.set(which, values[which]);
-        }
-        if (number == 7) {
-            chip.pin(Chips.IRQ, true);
-        } else if (number == 8) {
-            chip.pin(Chips.NMI, true);
-        } else if (number == 9) {
-            chip.reset();
-            chip.pin(Chips.SO, true);
-            chip.pin(Chips.READY, false);
-        }
-        chip.cycles(cycles[number]);
-        return chip;
-    }
-
-    private static List<Refused> alwaysRefused() {
-        List<Refused> calls = new ArrayList<>();
+    private static List<Scenes.Calls> alwaysRefused() {
+        List<Scenes.Calls> calls = new ArrayList<>();
         for (int n : new int[] {-1, 201, Integer.MIN_VALUE, Integer.MAX_VALUE}) {
             calls.add(chip -> chip.cycles(n));
         }
@@ -163,7 +130,7 @@ public final class EdgeRefusedTest {
     }
 
     private static void alwaysRefusedCallsChangeNothing() {
-        List<Refused> calls = alwaysRefused();
+        List<Scenes.Calls> calls = alwaysRefused();
         for (int number = 0; number < SCENES; number++) {
             for (int i = 0; i < calls.size(); i++) {
                 changesNothing("scene " + number + ", call " + i, number, calls.get(i));
@@ -172,7 +139,7 @@ public final class EdgeRefusedTest {
     }
 
     private static void refusedSetsChangeNothing() {
-        for (int number = NEW + 1; number < SCENES; number++) {
+        for (int number = Scenes.NEW + 1; number < SCENES; number++) {
             for (int which = 0; which < 6; which++) {
                 for (int v : new int[] {0, 1, 255, 65535, -1}) {
                     int register = which;
@@ -182,26 +149,12 @@ public final class EdgeRefusedTest {
         }
     }
 
-    /** Two chips alike, one of which is called: nothing that can be seen of them may differ, now or later. */
-    private static void changesNothing(String what, int number, Refused call) {
-        ClockedChip chip = called(what, number, call);
-        ClockedChip free = scene(number);
-        alike(what, chip, free);
-        for (int pin = 0; pin < 4; pin++) {
-            boolean on = pin != Chips.NMI;
-            CHECK.same(what + ", pin " + pin, chip.pin(pin, on), free.pin(pin, on));
-        }
-        for (int i = 0; i < 40; i++) {
-            CHECK.trace(what + ", cycle " + i + " behind it", chip, free.cycle());
-        }
-        alike(what + ", later", chip, free);
-        for (int first = 0; first < 1024; first += 256) {
-            sameMemory(what, called(what, number, call), scene(number), first);
-        }
+    /** Refused, and nothing that can be seen of the chip differs from one that isn't called, now or later. */
+    private static void changesNothing(String what, int number, Scenes.Calls call) {
+        Scenes.changeNothing(CHECK, what, number, chip -> isRefused(what, chip, call));
     }
 
-    private static ClockedChip called(String what, int number, Refused call) {
-        ClockedChip chip = scene(number);
+    private static void isRefused(String what, ClockedChip chip, Scenes.Calls call) {
         boolean thrown = false;
         try {
             call.on(chip);
@@ -209,26 +162,13 @@ public final class EdgeRefusedTest {
             thrown = true;
         }
         CHECK.same(what + " is refused", thrown, true);
-        return chip;
-    }
-
-    private static void alike(String what, ClockedChip chip, ClockedChip free) {
-        for (int which = 0; which < 8; which++) {
-            CHECK.same(what + ", register " + which, chip.register(which), free.register(which));
-        }
-    }
-
-    private static void sameMemory(String what, ClockedChip chip, ClockedChip free, int first) {
-        for (int address = first; address < first + 256; address++) {
-            CHECK.same(what + ", byte " + address, chip.peek(address), free.peek(address));
-        }
     }
 
     /** The face names no exception for these: they hold in every state and for every number. */
     private static void otherCallsAreNeverRefused() {
         int[] numbers = {0, 1, -1, 1023, 1024, 65535, 65536, Integer.MIN_VALUE, Integer.MAX_VALUE};
         for (int number = 0; number < SCENES; number++) {
-            ClockedChip chip = scene(number);
+            ClockedChip chip = Scenes.scene(number);
             for (int address : numbers) {
                 for (int v : numbers) {
                     CHECK.fails("poke", null, () -> chip.poke(address, v));
@@ -240,6 +180,6 @@ public final class EdgeRefusedTest {
             CHECK.fails("cycle of RESET", null, chip::cycle);
             CHECK.fails("reset again", null, chip::reset);
         }
-        CHECK.same("the jam is a scene", scene(JAM).register(Chips.JAMMED), 1);
+        CHECK.same("the jam is a scene", Scenes.scene(Scenes.JAM).register(Chips.JAMMED), 1);
     }
 }

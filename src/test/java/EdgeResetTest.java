@@ -22,6 +22,7 @@ public final class EdgeResetTest {
         iIsOneOnlyWithTheVector();
         vSetWithinReset();
         aNewChip();
+        pinsStay();
         CHECK.finish();
     }
 
@@ -162,5 +163,19 @@ public final class EdgeResetTest {
         ClockedChip chip = new ClockedChip();
         isReset("a new chip", chip);
         CHECK.same("S of a new chip", chip.register(Chips.S), 253);
+    }
+
+    /** RESET turns no pin, neither at once nor by its cycles. */
+    private static void pinsStay() {
+        for (int pin = 0; pin < 4; pin++) {
+            for (boolean on : new boolean[] {true, false}) {
+                ClockedChip chip = chip(Chips.NOTHING);
+                chip.pin(pin, on);
+                chip.reset();
+                CHECK.same("pin " + pin + " at once", chip.pin(pin, on), on);
+                chip.cycles(9);
+                CHECK.same("pin " + pin + " behind RESET", chip.pin(pin, on), on);
+            }
+        }
     }
 }
