@@ -179,7 +179,7 @@ public final class LeftAloneTest {
         return Scenes.scene(number).pin(pin, true);
     }
 
-    /** IRQ and READY count in a cycle alone; NMI and SO that go off and stay so mean nothing. */
+    /** IRQ and READY count in a cycle alone; whichever pin turns, only SO that goes on is seen at once. */
     private static void pinsThatTurnForNothing(int number) {
         String what = "scene " + number;
         for (int pin : new int[] {Chips.IRQ, Chips.READY}) {
@@ -189,11 +189,13 @@ public final class LeftAloneTest {
                 chip.pin(pin, on);
             });
         }
-        for (int pin : new int[] {Chips.NMI, Chips.SO}) {
+        for (int pin = 0; pin < 4; pin++) {
             ClockedChip chip = Scenes.scene(number);
             int[] before = registers(chip);
             chip.pin(pin, false);
             onlyTheseChanged(what + ", pin " + pin + " off", chip, before, "");
+            chip.pin(pin, true);
+            onlyTheseChanged(what + ", pin " + pin + " on", chip, before, pin == Chips.SO ? "v" : "");
         }
     }
 

@@ -32,6 +32,28 @@ public final class NewObjectTest {
         wanted.pin(Chips.IRQ, true);
         check.trace("the first cycle is an instruction's", wanted, Chips.read(0, Chips.NOTHING));
         check.same("its PC", wanted.register(Chips.PC), 1);
+        besideAUsedOne(check);
         check.finish();
+    }
+
+    /** Also when another one has been used before: no two of them share anything. */
+    private static void besideAUsedOne(Check check) {
+        ClockedChip used = Scenes.scene(Scenes.JAM);
+        for (int pin = 0; pin < 4; pin++) {
+            used.pin(pin, pin != Chips.READY);
+        }
+        ClockedChip chip = new ClockedChip();
+        check.registers("beside a used one", chip, 0, 0, 0, 0, 0, 32, 0, 0);
+        for (int pin = 0; pin < 4; pin++) {
+            check.same("pin " + pin + " beside a used one", chip.pin(pin, false), pin == Chips.READY);
+        }
+        for (int address : new int[] {90, 91, 600, 601, 1018, 1019, 1023}) {
+            check.same("byte " + address + " of the used one", used.peek(address) != 0, true);
+            check.same("byte " + address + " beside it", chip.peek(address), 0);
+        }
+        chip.poke(600, 1);
+        chip.set(Chips.A, 9);
+        check.same("the used one's byte", used.peek(600), Chips.JAM);
+        check.same("the used one's A", used.register(Chips.A), 71);
     }
 }

@@ -10,6 +10,7 @@ public final class SentencesTest {
     private static final Path SENTENCES = Path.of("src", "test", "sentences.txt");
     private static final Path TESTS = Path.of("src", "test", "java");
     private static final Path DOCUMENT = Path.of("..", "shared", "DOC.md");
+    private static final int SHOWN = 60;
 
     public static void main(String[] args) throws IOException {
         List<String> lines = Files.readAllLines(SENTENCES);
@@ -90,8 +91,8 @@ public final class SentencesTest {
         while (first < here.length() && first < due.length() && here.charAt(first) == due.charAt(first)) {
             first++;
         }
-        CHECK.same("sentences.txt differs from the document at: " + due.substring(Math.min(first, due.length())),
-            here.equals(due), true);
+        String place = due.substring(first, Math.min(first + SHOWN, due.length()));
+        CHECK.same("sentences.txt is as the document, up to: " + place, here.equals(due), true);
     }
 
     /** The words alone, without headings and fences. */
